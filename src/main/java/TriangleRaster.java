@@ -267,7 +267,7 @@ public final class TriangleRaster {
             return (int) ((w0 * zs[0] + w1 * zs[second] + w2 * zs[third]) / area);
         }
 
-        /** E of the edge from a to b at a place; long, as it goes beyond an int. */
+        /** E of the edge from a to b at a place; long, so that E times a depth does not wrap. */
         private long edge(int a, int b, int px, int py) {
             long alongX = xs[b] - xs[a];
             long alongY = ys[b] - ys[a];

@@ -63,9 +63,12 @@ final class CoversTest {
         }
         // 16 times these is 0 again in an int: they are refused, not folded back.
         Draw.flat(x, 5, -160, -160, 160, -160, -160, 160);
-        DUE.same("covers(-1, -1)", x.covers(-1, -1), true);
-        DUE.same("covers(1 << 28, -1)", x.covers(1 << 28, -1), false);
-        DUE.same("covers(-1, -(1 << 28))", x.covers(-1, -(1 << 28)), false);
+        DUE.same("covers(0, -2)", x.covers(0, -2), true);
+        DUE.same("covers(1 << 28, -2)", x.covers(1 << 28, -2), false);
+        DUE.same("covers(-(1 << 28), -2)", x.covers(-(1 << 28), -2), false);
+        DUE.same("covers(-2, 0)", x.covers(-2, 0), true);
+        DUE.same("covers(-2, 1 << 28)", x.covers(-2, 1 << 28), false);
+        DUE.same("covers(-2, -(1 << 28))", x.covers(-2, -(1 << 28)), false);
     }
 
     private static void changesNothing() {

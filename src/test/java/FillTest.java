@@ -4,6 +4,7 @@ final class FillTest {
 
     public static void main(String[] args) {
         ordinary();
+        cornerToCorner();
         nothingToFill();
         windings();
         DUE.end();
@@ -25,6 +26,18 @@ final class FillTest {
         TriangleRaster ends = Draw.picture("001", "100", "001");
         DUE.same("fill(2, 0, 2)", ends.fill(2, 0, 2), 1);
         DUE.picture("row ends", ends, "002", "100", "001");
+    }
+
+    private static void cornerToCorner() {
+        TriangleRaster x = Draw.picture("101", "010", "101");
+        DUE.same("the middle one", x.fill(1, 1, 5), 1);
+        DUE.picture("the middle one", x, "101", "050", "101");
+        DUE.same("a corner", x.fill(2, 2, 6), 1);
+        DUE.same("a side", x.fill(1, 0, 7), 1);
+        DUE.picture("a corner and a side", x, "171", "050", "106");
+        DUE.same("the colour across a corner", x.fill(1, 0, 5), 1);
+        DUE.same("joined", x.fill(1, 1, 8), 2);
+        DUE.picture("joined", x, "181", "080", "106");
     }
 
     private static void nothingToFill() {

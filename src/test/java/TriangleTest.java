@@ -148,7 +148,7 @@ final class TriangleTest {
         DUE.picture("across", x, "0000", "2222", "2220");
     }
 
-    /** E goes beyond an int here, and its products far beyond. */
+    /** E times a depth goes far beyond an int here. */
     private static void greatest() {
         TriangleRaster x = new TriangleRaster(24, 24);
         x.clear(0, 65535);
