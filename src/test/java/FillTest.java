@@ -5,7 +5,9 @@ final class FillTest {
     public static void main(String[] args) {
         ordinary();
         cornerToCorner();
-        nothingToFill();
+        noSuchPixel();
+        itsOwnColour();
+        onePixelAndAll();
         windings();
         DUE.end();
     }
@@ -40,20 +42,62 @@ final class FillTest {
         DUE.picture("joined", x, "181", "080", "106");
     }
 
-    private static void nothingToFill() {
-        TriangleRaster x = new TriangleRaster(3, 2);
-        x.clear(4, 9);
-        DUE.same("its own colour", x.fill(1, 1, 4), 0);
-        int[][] off = {{-1, 0}, {0, -1}, {3, 0}, {0, 2}, {-1, 1}, {Integer.MIN_VALUE, 0},
-            {Integer.MAX_VALUE, 1}, {1, Integer.MIN_VALUE}, {2, Integer.MAX_VALUE}};
-        for (int[] at : off) {
-            DUE.same("fill(" + at[0] + ", " + at[1] + ", 5)", x.fill(at[0], at[1], 5), 0);
+    /** "0 when there is no such pixel": beside each side, and where an index would wrap round. */
+    private static void noSuchPixel() {
+        int[][] sizes = {{3, 2}, {1, 1}, {16, 16}, {24, 1}, {1, 24}, {24, 24}};
+        for (int[] size : sizes) {
+            TriangleRaster x = new TriangleRaster(size[0], size[1]);
+            x.clear(4, 9);
+            for (int column : new Range(0, size[0] - 1).refused()) {
+                notFilled(x, column, 0);
+                notFilled(x, column, size[1] - 1);
+                notFilled(x, column, size[1]);
+            }
+            for (int row : new Range(0, size[1] - 1).refused()) {
+                notFilled(x, 0, row);
+                notFilled(x, size[0] - 1, row);
+                notFilled(x, -1, row);
+            }
+            DUE.same("count(4)", x.count(4), size[0] * size[1]);
         }
-        DUE.same("count(4)", x.count(4), 6);
-        DUE.same("fill(0, 0, -1)", x.fill(0, 0, -1), 6);
-        DUE.same("count(-1)", x.count(-1), 6);
-        DUE.same("fill of colour -1", x.fill(2, 1, 8), 6);
-        DUE.same("depthAt(2, 1)", x.depthAt(2, 1), 9);
+    }
+
+    private static void notFilled(TriangleRaster x, int column, int row) {
+        DUE.same("fill(" + column + ", " + row + ", 5)", x.fill(column, row, 5), 0);
+        DUE.same("fill(" + column + ", " + row + ", -1)", x.fill(column, row, -1), 0);
+    }
+
+    /** "or it has that colour": any int is a colour, -1 too, which pixel answers outside. */
+    private static void itsOwnColour() {
+        for (int c : new int[] {4, 0, -1, Integer.MIN_VALUE, Integer.MAX_VALUE}) {
+            TriangleRaster x = new TriangleRaster(3, 2);
+            x.clear(c, 9);
+            DUE.same("its own colour", x.fill(1, 1, c), 0);
+            DUE.same("count of it", x.count(c), 6);
+            DUE.same("one more than its own", x.fill(1, 1, c + 1), 6);
+            DUE.same("and back", x.fill(0, 0, c), 6);
+            x.line(0, 0, 2, 0, c - 1);
+            DUE.same("the colour beside it", x.fill(1, 1, c - 1), 3);
+            DUE.same("its own colour now", x.fill(1, 1, c - 1), 0);
+            DUE.same("count of that", x.count(c - 1), 6);
+            DUE.same("depthAt(2, 1)", x.depthAt(2, 1), 9);
+        }
+    }
+
+    private static void onePixelAndAll() {
+        TriangleRaster least = new TriangleRaster(1, 1);
+        DUE.same("the only pixel", least.fill(0, 0, 3), 1);
+        DUE.same("the only pixel", least.pixel(0, 0), 3);
+        for (int corner = 0; corner < 4; corner++) {
+            TriangleRaster x = new TriangleRaster(24, 24);
+            int column = corner % 2 * 23;
+            int row = corner / 2 * 23;
+            DUE.same("all from a corner", x.fill(column, row, 1), 576);
+            x.line(column, row, column, row, 2);
+            DUE.same("a corner alone", x.fill(column, row, 3), 1);
+            DUE.same("all but a corner", x.fill(12, 12, 4), 575);
+            DUE.same("the corner stays", x.pixel(column, row), 3);
+        }
     }
 
     private static void windings() {

@@ -1,24 +1,36 @@
-/** Promise 1: the sides of a new object, and 0 in all. */
+/** Promise 1: "w and h of 1 .. 24 (of another number 1): all pixels and vertices are 0 in all." */
 final class NewObjectTest {
     private static final Due DUE = new Due();
 
     public static void main(String[] args) {
+        everySize();
+        sidesOfAnotherNumber();
+        verticesAreZero();
+        noTriangleYet();
+        objectsAreApart();
+        DUE.end();
+    }
+
+    private static void everySize() {
         for (int w = 1; w <= 24; w++) {
             for (int h = 1; h <= 24; h++) {
                 made(w, h, w, h);
             }
         }
-        made(0, 7, 1, 7);
-        made(25, 7, 1, 7);
-        made(7, 0, 7, 1);
-        made(7, 25, 7, 1);
-        made(-1, -24, 1, 1);
-        made(Integer.MIN_VALUE, 24, 1, 24);
-        made(24, Integer.MAX_VALUE, 24, 1);
+    }
+
+    /** Each side is looked at alone: the other one stays as it was asked for. */
+    private static void sidesOfAnotherNumber() {
+        for (int bad : Range.SIDE.refused()) {
+            for (int good : Range.SIDE.allowed()) {
+                made(bad, good, 1, good);
+                made(good, bad, good, 1);
+            }
+            made(bad, bad, 1, 1);
+        }
         made(Integer.MAX_VALUE, Integer.MIN_VALUE, 1, 1);
-        verticesAreZero();
-        objectsAreApart();
-        DUE.end();
+        made(0, 25, 1, 1);
+        made(-1, -24, 1, 1);
     }
 
     private static void made(int w, int h, int wantW, int wantH) {
@@ -38,22 +50,35 @@ final class NewObjectTest {
         }
     }
 
-    /** Each vertex alone is left as it was made, with the other two set. */
+    /** Each vertex alone is left as it was made; the slope of the depths shows where it stands. */
     private static void verticesAreZero() {
-        int[][] places = {{0, 0}, {160, 0}, {0, 160}};
         for (int left = 0; left < 3; left++) {
-            TriangleRaster x = new TriangleRaster(10, 10);
-            x.clear(0, 65535);
-            x.vertex((left + 1) % 3, places[1][0], places[1][1], 0);
-            x.vertex((left + 2) % 3, places[2][0], places[2][1], 0);
-            DUE.same("triangle with vertex " + left + " as made", x.triangle(1), 45);
-            DUE.same("its depth", x.depthAt(0, 0), 0);
+            Both both = new Both(DUE, "vertex " + left + " as made", 10, 10);
+            both.clear(0, 65535);
+            both.vertex((left + 1) % 3, 160, 3, 32768);
+            both.vertex((left + 2) % 3, 5, 160, 20000);
+            both.triangle(1);
+            both.everyPixel();
+            both.everyCover();
         }
         TriangleRaster x = new TriangleRaster(10, 10);
         x.clear(0, 65535);
+        x.vertex(1, 160, 0, 1);
+        x.vertex(2, 0, 160, 1);
+        DUE.same("triangle with vertex 0 as made", x.triangle(1), 45);
+        // Of 25600, w0 is 23040: with a z0 of 1 it were 1.
+        DUE.same("its depth", x.depthAt(0, 0), 0);
+    }
+
+    /** All three vertices are in one place, so that the area is 0. */
+    private static void noTriangleYet() {
+        TriangleRaster x = new TriangleRaster(10, 10);
+        x.clear(0, 65535);
         DUE.same("triangle of a new object", x.triangle(1), 0);
-        DUE.same("covers of a new object", x.covers(0, 0), false);
-        DUE.same("covers of a new object", x.covers(-1, -1), false);
+        DUE.same("count(0) after it", x.count(0), 100);
+        for (int place = -2; place <= 2; place++) {
+            DUE.same("covers of a new object", x.covers(place, place), false);
+        }
     }
 
     private static void objectsAreApart() {

@@ -12,6 +12,7 @@ final class PiecesTest {
         // A row's end and the next row's beginning, and pixels corner to corner, are apart.
         pieces(new int[] {1, 2}, "001", "100");
         pieces(new int[] {5, 4}, "010", "101", "010");
+        piecesOfNoneAndAll();
         chequered();
         changesNothing();
         DUE.end();
@@ -24,6 +25,27 @@ final class PiecesTest {
         }
         DUE.same("pieces(9)", x.pieces(9), 0);
         DUE.same("pieces(-1)", x.pieces(-1), 0);
+    }
+
+    /** A colour that no pixel has falls into none, one that all pixels have is one piece. */
+    private static void piecesOfNoneAndAll() {
+        for (int[] size : new int[][] {{1, 1}, {24, 1}, {1, 24}, {5, 3}, {24, 24}}) {
+            for (int c : new int[] {0, -1, 1, Integer.MIN_VALUE, Integer.MAX_VALUE}) {
+                TriangleRaster x = new TriangleRaster(size[0], size[1]);
+                DUE.same("pieces(0) of a new object", x.pieces(0), 1);
+                x.clear(c, 0);
+                DUE.same("pieces of all", x.pieces(c), 1);
+                for (int none : new int[] {c + 1, c - 1, ~c, c ^ 1 << 31, c ^ 1 << 16}) {
+                    DUE.same("pieces of none", x.pieces(none), 0);
+                }
+                x.line(0, 0, 0, 0, c + 1);
+                DUE.same("pieces of all but one", x.pieces(c), size[0] * size[1] == 1 ? 0 : 1);
+                DUE.same("pieces of the one", x.pieces(c + 1), 1);
+                x.fill(0, 0, c);
+                DUE.same("pieces of all again", x.pieces(c), 1);
+                DUE.same("pieces of none again", x.pieces(c + 1), 0);
+            }
+        }
     }
 
     /** The most pieces there can be, made by slanted lines alone. */

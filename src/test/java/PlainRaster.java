@@ -6,8 +6,8 @@ import java.math.BigInteger;
  * one, pieces by sweeps over the picture.
  */
 final class PlainRaster {
-    private final int w;
-    private final int h;
+    final int w;
+    final int h;
     private final int[][] colour;
     private final int[][] depth;
     private final int[][] vertices = new int[3][3];

@@ -1,117 +1,58 @@
-/** Promise 4: which pixels a triangle paints, and with which depths. */
+/** Promise 4: which of the covered pixels a triangle paints. */
 final class TriangleTest {
     private static final Due DUE = new Due();
 
     public static void main(String[] args) {
-        topAndLeftEdges();
-        sharedEdgesPaintOnce();
-        flatTriangles();
-        depthsGoDown();
-        depthsFollowTheirVertices();
+        depthsRoundTheTriangles();
+        depthsThatDiffer();
         nearerAlone();
+        coveredAlone();
         partlyOutside();
-        greatest();
         DUE.end();
     }
 
-    /** Middles that are on an edge belong to it when it is top or left. */
-    private static void topAndLeftEdges() {
-        TriangleRaster x = new TriangleRaster(5, 5);
-        int[][] ways = {{0, 1, 2}, {1, 2, 0}, {2, 0, 1}, {0, 2, 1}, {2, 1, 0}, {1, 0, 2}};
-        int[][] upperLeft = {{8, 8}, {72, 8}, {8, 72}};
-        int[][] lowerRight = {{72, 8}, {72, 72}, {8, 72}};
-        for (int[] way : ways) {
-            paint(x, upperLeft, way);
-            DUE.picture("top and left edges", x, "11110", "11100", "11000", "10000", "00000");
-            paint(x, lowerRight, way);
-            DUE.picture("right and bottom edges", x, "00000", "00010", "00110", "01110", "00000");
-        }
-        int[][] upperRight = {{8, 8}, {72, 8}, {72, 72}};
-        paint(x, upperRight, ways[0]);
-        DUE.picture("upper right", x, "11110", "01110", "00110", "00010", "00000");
-        int[][] lowerLeft = {{8, 8}, {72, 72}, {8, 72}};
-        paint(x, lowerLeft, ways[0]);
-        DUE.picture("lower left", x, "00000", "10000", "11000", "11100", "00000");
-    }
-
-    private static void paint(TriangleRaster x, int[][] corners, int[] way) {
-        x.clear(0, 65535);
-        for (int k = 0; k < 3; k++) {
-            x.vertex(way[k], corners[k][0], corners[k][1], 3);
-        }
-        int painted = x.triangle(1);
-        DUE.same("triangle(1)", painted, x.count(1));
-    }
-
-    /** A fan round a pixel's middle paints each pixel of its outline's inside once. */
-    private static void sharedEdgesPaintOnce() {
-        int[][] ring = {{8, 8}, {88, 8}, {136, 56}, {136, 136}, {56, 136}, {8, 104}};
-        int[] times = new int[100];
-        for (int i = 0; i < ring.length; i++) {
-            TriangleRaster x = new TriangleRaster(10, 10);
-            int[] a = ring[i];
-            int[] b = ring[(i + 1) % ring.length];
-            Draw.flat(x, 5, 72, 72, a[0], a[1], b[0], b[1]);
-            x.clear(0, 65535);
-            x.triangle(1);
-            for (int p = 0; p < 100; p++) {
-                times[p] += x.pixel(p % 10, p / 10);
+    /** "whose depth is greater than that of the triangle there": one less, the same, one more. */
+    private static void depthsRoundTheTriangles() {
+        for (int of : Range.VERTEX_DEPTH.allowed()) {
+            for (int depth : new int[] {of - 1, of, of + 1, 0, 65535}) {
+                if (depth >= 0) {
+                    drawnOver(depth, of);
+                }
             }
         }
-        for (int p = 0; p < 100; p++) {
-            DUE.same("pixel " + p + " painted at most once", times[p] <= 1, true);
-        }
-        DUE.same("the middle of the fan", times[4 * 10 + 4], 1);
-        DUE.same("inside", times[6 * 10 + 6], 1);
     }
 
-    private static void flatTriangles() {
-        TriangleRaster x = new TriangleRaster(5, 5);
+    private static void drawnOver(int depth, int of) {
+        TriangleRaster x = new TriangleRaster(2, 1);
+        x.clear(3, depth);
+        Draw.flat(x, of, 0, 0, 480, 0, 0, 480);
+        String call = "triangle(4) of depth " + of + " over " + depth;
+        DUE.same(call, x.triangle(4), depth > of ? 2 : 0);
+        DUE.same("count(4) after " + call, x.count(4), depth > of ? 2 : 0);
+        DUE.same("count(3) after " + call, x.count(3), depth > of ? 0 : 2);
+        DUE.same("depthAt(1, 0) after " + call, x.depthAt(1, 0), depth > of ? of : depth);
+        DUE.same("again " + call, x.triangle(5), 0);
+    }
+
+    /** A slope through a level triangle: in one call some are nearer, one is the same, some are deeper. */
+    private static void depthsThatDiffer() {
+        TriangleRaster x = new TriangleRaster(5, 1);
         x.clear(0, 65535);
-        Draw.flat(x, 0, 8, 8, 8, 8, 8, 8);
-        DUE.same("a point", x.triangle(1), 0);
-        Draw.flat(x, 0, 8, 8, 72, 8, 40, 8);
-        DUE.same("a level line", x.triangle(1), 0);
-        Draw.flat(x, 0, 8, 8, 72, 72, 40, 40);
-        DUE.same("a slanted line", x.triangle(1), 0);
-        Draw.flat(x, 0, 8, 72, 8, 8, 8, 40);
-        DUE.same("an upright line", x.triangle(1), 0);
-        DUE.same("count(0)", x.count(0), 25);
-        DUE.same("depthAt(0, 0)", x.depthAt(0, 0), 65535);
-    }
-
-    /** At the one middle w0, w1 and w2 are 64, 64 and 128 of 256; z0, z1, z2 and the depth due. */
-    private static void depthsGoDown() {
-        int[][] depths = {{0, 0, 0, 0}, {0, 0, 1, 0}, {1, 1, 1, 1}, {1, 0, 1, 0}, {3, 1, 0, 1}, {3, 2, 1, 1},
-            {3, 3, 1, 2}, {32768, 32768, 32768, 32768}, {32768, 32768, 32767, 32767}, {10, 20, 31, 23}};
-        for (int[] z : depths) {
-            TriangleRaster x = new TriangleRaster(1, 1);
-            x.clear(0, 65535);
-            x.vertex(0, 0, 0, z[0]);
-            x.vertex(1, 16, 0, z[1]);
-            x.vertex(2, 8, 16, z[2]);
-            DUE.same("triangle(1)", x.triangle(1), 1);
-            DUE.same("down", x.depthAt(0, 0), z[3]);
+        Draw.flat(x, 20, 0, 0, 480, 0, 0, 480);
+        DUE.same("level", x.triangle(1), 5);
+        // At the middles the slope has depths of 0, 10, 20, 30 and 40.
+        x.vertex(0, 8, 8, 0);
+        x.vertex(1, 808, 8, 500);
+        x.vertex(2, 8, 808, 0);
+        DUE.same("slope", x.triangle(2), 2);
+        DUE.picture("slope", x, "22111");
+        int[] depths = {0, 10, 20, 20, 20};
+        for (int column = 0; column < 5; column++) {
+            DUE.same("depthAt(" + column + ", 0)", x.depthAt(column, 0), depths[column]);
         }
-    }
-
-    /** The depths of vertices 1 and 2 go with their places when these are taken the other way round. */
-    private static void depthsFollowTheirVertices() {
-        int[][] corners = {{0, 0, 100}, {64, 0, 900}, {0, 64, 5000}};
-        int[][] ways = {{0, 1, 2}, {0, 2, 1}, {1, 0, 2}, {1, 2, 0}, {2, 0, 1}, {2, 1, 0}};
-        for (int[] way : ways) {
-            TriangleRaster x = new TriangleRaster(4, 4);
-            x.clear(0, 65535);
-            for (int k = 0; k < 3; k++) {
-                int[] at = corners[k];
-                x.vertex(way[k], at[0], at[1], at[2]);
-            }
-            DUE.same("triangle(1)", x.triangle(1), 6);
-            DUE.same("depthAt(0, 0)", x.depthAt(0, 0), 812);
-            DUE.same("depthAt(2, 0)", x.depthAt(2, 0), 1212);
-            DUE.same("depthAt(0, 2)", x.depthAt(0, 2), 3262);
-            DUE.same("depthAt(1, 1)", x.depthAt(1, 1), 2237);
-        }
+        Draw.flat(x, 12, 0, 0, 480, 0, 0, 480);
+        DUE.same("level again", x.triangle(3), 3);
+        DUE.picture("level again", x, "22333");
     }
 
     private static void nearerAlone() {
@@ -138,6 +79,25 @@ final class TriangleTest {
         DUE.picture("nearer than the line", x, "855");
     }
 
+    /** No pixel, all pixels but one, and all pixels are covered; any colour will do. */
+    private static void coveredAlone() {
+        for (int c : new int[] {-1, Integer.MIN_VALUE, Integer.MAX_VALUE}) {
+            TriangleRaster x = new TriangleRaster(24, 24);
+            x.clear(0, 1);
+            Draw.flat(x, 0, 384, 0, 800, 0, 384, 800);
+            DUE.same("none", x.triangle(c), 0);
+            DUE.same("count after none", x.count(c), 0);
+            // The slanted edge leaves out the last pixel's middle alone: 376 and 376 are 752.
+            Draw.flat(x, 0, 0, 0, 752, 0, 0, 752);
+            DUE.same("all but one", x.triangle(c), 575);
+            DUE.same("the one", x.pixel(23, 23), 0);
+            x.clear(0, 1);
+            Draw.flat(x, 0, 0, 0, 753, 0, 0, 753);
+            DUE.same("all", x.triangle(c), 576);
+            DUE.same("count after all", x.count(c), 576);
+        }
+    }
+
     private static void partlyOutside() {
         TriangleRaster x = new TriangleRaster(4, 3);
         x.clear(0, 65535);
@@ -146,20 +106,5 @@ final class TriangleTest {
         Draw.flat(x, 7, -80, 24, 80, 24, 0, 72);
         DUE.same("across", x.triangle(2), 7);
         DUE.picture("across", x, "0000", "2222", "2220");
-    }
-
-    /** E times a depth goes far beyond an int here. */
-    private static void greatest() {
-        TriangleRaster x = new TriangleRaster(24, 24);
-        x.clear(0, 65535);
-        Draw.flat(x, 32768, -16384, -16384, 16384, -16384, -16384, 16384);
-        DUE.same("half of all", x.triangle(1), 0);
-        Draw.flat(x, 32768, 16384, -16384, 16384, 16384, -16384, 16384);
-        DUE.same("the other half", x.triangle(1), 576);
-        DUE.same("its depth", x.depthAt(23, 23), 32768);
-        x.vertex(1, 16384, 16384, 0);
-        DUE.same("nearer", x.triangle(2), 576);
-        DUE.same("depthAt(0, 0)", x.depthAt(0, 0), 32752);
-        DUE.same("depthAt(23, 23)", x.depthAt(23, 23), 32016);
     }
 }

@@ -3,41 +3,96 @@ final class VertexTest {
     private static final Due DUE = new Due();
 
     public static void main(String[] args) {
-        accepts();
-        refuses();
+        verticesThatAreNotSuch();
+        placesThatAreSuch();
+        placesThatAreNotSuch();
+        depthsThatAreSuch();
+        depthsThatAreNotSuch();
         setsOneAlone();
         staysAfterTriangle();
         DUE.end();
     }
 
-    private static void accepts() {
-        TriangleRaster x = new TriangleRaster(4, 4);
-        for (int k = 0; k < 3; k++) {
-            DUE.same("least", x.vertex(k, -16384, -16384, 0), true);
-            DUE.same("most", x.vertex(k, 16384, 16384, 32768), true);
-            DUE.same("ordinary", x.vertex(k, 5, -7, 300), true);
+    /** "VERTICES 0, 1, 2": no other one. */
+    private static void verticesThatAreNotSuch() {
+        for (int bad : Range.VERTEX.refused()) {
+            refused(bad, 32, 32, 5);
         }
     }
 
-    private static void refuses() {
-        refused(-1, 0, 0, 0);
-        refused(3, 0, 0, 0);
-        refused(Integer.MIN_VALUE, 0, 0, 0);
-        refused(Integer.MAX_VALUE, 0, 0, 0);
-        int[] badPlaces = {-16385, 16385, Integer.MIN_VALUE, Integer.MAX_VALUE};
-        int[] badDepths = {-1, 32769, 65535, Integer.MIN_VALUE, Integer.MAX_VALUE};
+    /** "x and y in sixteenths of a pixel, -16384 .. 16384": both ends are kept to the sixteenth. */
+    private static void placesThatAreSuch() {
         for (int k = 0; k < 3; k++) {
-            for (int bad : badPlaces) {
-                refused(k, bad, 0, 0);
-                refused(k, 0, bad, 0);
+            for (int place : Range.COORDINATE.allowed()) {
+                int across = place < 0 ? 16384 : -16384;
+                peakAt(k, place, 0, across, -16384, across, 16384);
+                peakAt(k, 0, place, -16384, across, 16384, across);
+                DUE.same("in both", new TriangleRaster(1, 1).vertex(k, place, place, 0), true);
+                DUE.same("in both", new TriangleRaster(1, 1).vertex(k, place, -place, 32768), true);
             }
-            for (int bad : badDepths) {
+        }
+    }
+
+    /** So wide that a depth in the picture changes by a half when the peak moves by a sixteenth. */
+    private static void peakAt(int k, int px, int py, int ax, int ay, int bx, int by) {
+        Both both = new Both(DUE, "vertex " + k + " at " + px + ", " + py, 12, 12);
+        both.clear(0, 65535);
+        both.vertex(k, px, py, 32768);
+        both.vertex((k + 1) % 3, ax, ay, 0);
+        both.vertex((k + 2) % 3, bx, by, 0);
+        both.triangle(1);
+        DUE.same("all are covered", both.x.count(1), 144);
+        both.everyPixel();
+    }
+
+    private static void placesThatAreNotSuch() {
+        for (int k = 0; k < 3; k++) {
+            for (int bad : Range.COORDINATE.refused()) {
+                refused(k, bad, 32, 5);
+                refused(k, 32, bad, 5);
+                refused(k, bad, bad, 5);
+            }
+        }
+    }
+
+    /** "a depth z of 0 .. 32768": both ends, in one vertex and in all. */
+    private static void depthsThatAreSuch() {
+        for (int z : Range.VERTEX_DEPTH.allowed()) {
+            TriangleRaster x = new TriangleRaster(1, 1);
+            x.clear(0, 65535);
+            for (int k = 0; k < 3; k++) {
+                DUE.same("vertex of depth " + z, x.vertex(k, k == 1 ? 64 : 0, k == 2 ? 64 : 0, z), true);
+            }
+            DUE.same("triangle(1)", x.triangle(1), 1);
+            DUE.same("depth of all", x.depthAt(0, 0), z);
+            for (int k = 0; k < 3; k++) {
+                onePeak(k, z);
+            }
+        }
+    }
+
+    /** The vertex is at the pixel's middle, so that the depth there is its own. */
+    private static void onePeak(int k, int z) {
+        TriangleRaster x = new TriangleRaster(1, 1);
+        x.clear(0, 65535);
+        x.vertex(k, 8, 8, z);
+        x.vertex((k + 1) % 3, 64, 8, 100);
+        x.vertex((k + 2) % 3, 8, 64, 200);
+        DUE.same("triangle(1)", x.triangle(1), 1);
+        DUE.same("depth of vertex " + k, x.depthAt(0, 0), z);
+    }
+
+    private static void depthsThatAreNotSuch() {
+        for (int k = 0; k < 3; k++) {
+            for (int bad : Range.VERTEX_DEPTH.refused()) {
                 refused(k, 32, 32, bad);
             }
+            // Such a depth a pixel may have, but no vertex.
+            refused(k, 32, 32, 65535);
         }
     }
 
-    /** The call is refused, and the triangle and its depths are the ones of before. */
+    /** "false when these are not such": and the triangle and its depths are the ones of before. */
     private static void refused(int k, int vx, int vy, int z) {
         TriangleRaster x = new TriangleRaster(4, 4);
         Draw.flat(x, 9, 0, 0, 64, 0, 0, 64);
